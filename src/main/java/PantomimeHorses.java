@@ -930,13 +930,11 @@ public final class PantomimeHorses {
         int leastJar = 0;
         final int[] best = new int[MOST_PEOPLE];
         private final int[] with = new int[MOST_PEOPLE];
-        private final boolean[] placed = new boolean[MOST_PEOPLE];
+        /** Who is with one before him, as far as the search has come: nobody, when it has ended. */
+        private final boolean[] taken = new boolean[MOST_PEOPLE];
 
         void seek(Duchy duchy) {
             leastJar = Integer.MAX_VALUE;
-            for (int p = 0; p < MOST_PEOPLE; p++) {
-                placed[p] = false;
-            }
             place(duchy, 0, 0, duchy.count % 2 == 1);
         }
 
@@ -949,25 +947,23 @@ public final class PantomimeHorses {
                 keep(jarred);
                 return;
             }
-            if (placed[p]) {
+            if (taken[p]) {
                 place(duchy, p + 1, jarred, oneIsOver);
                 return;
             }
-            placed[p] = true;
             for (int other = p + 1; other < duchy.count; other++) {
-                if (!placed[other]) {
-                    placed[other] = true;
+                if (!taken[other]) {
+                    taken[other] = true;
                     with[p] = other;
                     with[other] = p;
                     place(duchy, p + 1, jarred + duchy.jarOf(p, other), oneIsOver);
-                    placed[other] = false;
+                    taken[other] = false;
                 }
             }
             if (oneIsOver) {
                 with[p] = NONE;
                 place(duchy, p + 1, jarred, false);
             }
-            placed[p] = false;
         }
 
         private void keep(int jarred) {

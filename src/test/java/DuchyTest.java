@@ -89,7 +89,7 @@ public final class DuchyTest {
     }
 
     private static void anew() {
-        PantomimeHorses x = Checks.of("d5;f31;f11;h00");
+        PantomimeHorses x = Checks.of("d5;f31;f42;h00");
         x.join(0, 1);
         x.hours(3);
         x.reading(0, 1, 0, 0);
@@ -99,6 +99,7 @@ public final class DuchyTest {
         due("a fault leaves the HORSE", x.many(3), 1);
         due("a fault leaves the READING", x.many(4), 1);
         due("a fault leaves the column", x.where(0, 0), 9);
+        due("a fault leaves the row", x.where(0, 1), 6);
         Checks.tellDuchy(x, "d4;f31;f11");
         due("anew: PEOPLE", x.many(0), 2);
         due("anew: NOON", x.many(1), 4);
@@ -106,6 +107,7 @@ public final class DuchyTest {
         due("anew: HORSES", x.many(3), 0);
         due("anew: READINGS", x.many(4), 0);
         due("anew: column", x.where(0, 0), 0);
+        due("anew: row", x.where(0, 1), 0);
         due("anew: JOINED", x.ofPerson(0, 4), -9);
         due("anew: FRONT", x.ofPerson(0, 5), 0);
         due("TRACE stays", x.trace(), 1);

@@ -19,7 +19,7 @@ public final class HorsesTest {
     }
 
     private static void joining() {
-        PantomimeHorses x = Checks.of("d9;f31;f11;f21;f00;f00");
+        PantomimeHorses x = Checks.of("d9;f31;f42;f21;f00;f00");
         due("join", x.join(0, 1), 1);
         due("join", x.join(3, 2), 2);
         due("the first is JOINED", x.join(0, 4), -3);
@@ -33,8 +33,10 @@ public final class HorsesTest {
         x.hours(1);
         x.part(0);
         due("he has gone", x.where(1, 0), 3);
+        due("he has gone", x.where(1, 1), 2);
         due("joined where the one in FRONT is", x.join(4, 1), 2);
         due("the other comes there", x.where(1, 0), 0);
+        due("the other comes there", x.where(1, 1), 0);
     }
 
     private static void parting() {
@@ -101,6 +103,32 @@ public final class HorsesTest {
         due("all change", x.ofPerson(2, 5), 0);
         due("99 hours", x.hours(99), 105);
         due("many(2)", x.many(2), 105);
+        eachHour();
+        eightPeople();
+    }
+
+    private static void eachHour() {
+        PantomimeHorses x = Checks.of("d1;f81;f22");
+        x.join(0, 1);
+        x.hours(1);
+        due("NOON each HOUR", x.ofPerson(1, 5), 1);
+        x.hours(1);
+        due("NOON each HOUR", x.ofPerson(0, 5), 1);
+        due("by both", x.where(0, 0), 12);
+        due("by both", x.where(0, 1), 3);
+    }
+
+    private static void eightPeople() {
+        PantomimeHorses x = Checks.of("d2;f11;f00;f21;f00;f31;f00;f00;f41");
+        for (int p = 0; p < 8; p += 2) {
+            due("join of eight", x.join(p, p + 1), p / 2 + 1);
+        }
+        due("hours of eight", x.hours(3), 3);
+        due("the last one's HORSE", x.where(7, 0), 8);
+        due("a day of eight", Checks.day(x, 0, 1, 10), 1 | 4 | 16 | 64);
+        due("a day of eight, crowded", Checks.day(x, 3, 2, 10), 0);
+        due("a day of eight, how far", Checks.day(x, 4), 2 * (2 + 5 + 7 + 8));
+        due("the last of eight", Checks.day(x, 17), 6);
     }
 
     private static void daysAsTold() {
@@ -139,6 +167,8 @@ public final class HorsesTest {
         due("all three together is once an HOUR", Checks.day(x, 3, 0, 11, 1, 0, 2, 11, 3, 2, 3, 10), 3);
         due("they come back", Checks.day(x, 3, 4, 11, 2, 10, 0, 23, 2, 23, 2, 10), 1);
         due("who is not JOINED is no HORSE", Checks.day(x, 3, 4, 11, 2, 11, 4, 10), 0);
+        PantomimeHorses y = Checks.of("d9;f00;f00;f00;f00");
+        due("by 0 and 1 in FRONT", Checks.day(y, 3, 0, 2, 1, 3, 4, 10, 0, 11, 9, 10), 4);
     }
 
     private static void wrongDays() {
@@ -181,6 +211,8 @@ public final class HorsesTest {
         due("no pair at the end", x.day(0, 0, 4, 0, 0), 0);
         due("INDEX by a sum that wraps", x.day(0, 0, Integer.MAX_VALUE, 20, 0), -13);
         due("from i on", x.day(0, 0, 2, 1, 0), 0);
+        Checks.fill(x, 0, 0, 0, 10, 0, 99);
+        due("only n pairs", x.day(0, 0, 0, 1, 0), 0);
         int[] bad = {-1, 8, 9, 12, 19, 24};
         for (int second : bad) {
             due("second " + second, Checks.day(x, 0, 9, second), -2);

@@ -24,8 +24,10 @@ public final class SheetsTest {
     private static void sheets() {
         PantomimeHorses x = new PantomimeHorses();
         due("sheet", x.sheet(0, 0, 60), 1);
+        due("put", x.put(0, 0, 7), 1);
         due("put", x.put(0, 59, 7), 1);
         due("a new row", x.sheet(0, 0, 60), 1);
+        due("is all 0", x.cell(0, 0, 0), 0);
         due("is all 0", x.cell(0, 59, 0), 0);
         due("of no cells", x.sheet(1, 2, 0), 1);
         due("of no cells", x.put(1, 0, 0), -13);
@@ -77,6 +79,8 @@ public final class SheetsTest {
         due("INDEX below", x.put(0, -1, 5), -13);
         due("INDEX far", x.put(0, Integer.MAX_VALUE, 5), -13);
         due("INDEX far below", x.put(0, Integer.MIN_VALUE, 5), -13);
+        due("put is refused", x.put(4, 0, 0), -1);
+        due("put is refused, fault()", x.fault(), 0);
     }
 
     private static void dueLost(String call, PantomimeHorses x, long got, int fault) {

@@ -79,6 +79,13 @@ public final class WhoTest {
         Checks.tellDuchy(x, "d5;f00;f00");
         x.join(1, 0);
         due("who are JOINED to each other", x.rather(), -9);
+        Checks.tellDuchy(x, "d5;f00;f00;f00;f00;f00;f00;f00;f00");
+        for (int p = 0; p < 8; p += 2) {
+            x.join(p, p + 1);
+        }
+        due("nobody of eight", x.rather(), -9);
+        x.part(7);
+        due("the last two of eight", x.rather(), 192);
     }
 
     private static void meetings() {
