@@ -11,6 +11,22 @@ final class Checks {
         }
     }
 
+    void same(String call, String got, String want) {
+        asked++;
+        if (!got.equals(want)) {
+            wrong++;
+            System.out.println(call + ": " + got + ", due is " + want);
+        }
+    }
+
+    void other(String call, long got, long notDue) {
+        asked++;
+        if (got == notDue) {
+            wrong++;
+            System.out.println(call + " answered " + got + ", which is not due");
+        }
+    }
+
     void end() {
         if (asked == 0) {
             System.out.println("nothing was asked");
